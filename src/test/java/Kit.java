@@ -1,0 +1,111 @@
+/** What the tests share: a count of wrong answers, texts put into a hall, and outputs read from it. */
+final class Kit {
+    static final String NOTHING = "";
+    private int wrong;
+    private int asked;
+
+    void due(String what, long got, long want) {
+        asked++;
+        if (got != want) {
+            wrong++;
+            System.out.println(what + " answered " + got + ", due is " + want);
+        }
+    }
+
+    void due(String what, boolean got, boolean want) {
+        due(what, got ? 1 : 0, want ? 1 : 0);
+    }
+
+    void due(String what, String got, String want) {
+        asked++;
+        if (!got.equals(want)) {
+            wrong++;
+            System.out.println(what + " answered \"" + got + "\", due is \"" + want + "\"");
+        }
+    }
+
+    /** A call that must throw this and nothing else. */
+    void throwing(String what, Class<?> want, Runnable call) {
+        asked++;
+        Class<?> got = null;
+        try {
+            call.run();
+        } catch (RuntimeException e) {
+            got = e.getClass();
+        }
+        if (got != want) {
+            wrong++;
+            System.out.println(what + " threw " + got + ", due is " + want);
+        }
+    }
+
+    /** Ends the test: with exit code 1 if an answer was wrong. */
+    void end() {
+        System.out.println(asked + " answers, " + wrong + " of them wrong");
+        if (wrong != 0 || asked == 0) {
+            System.exit(1);
+        }
+    }
+
+    /** Puts a text behind the text of the hall. */
+    static void put(Wasmhall hall, String text) {
+        for (int i = 0; i < text.length(); i += 8) {
+            long eight = 0;
+            for (int k = i; k < i + 8 && k < text.length(); k++) {
+                eight = eight << 8 | text.charAt(k);
+            }
+            hall.type(eight, 0, 0, 0);
+        }
+    }
+
+    static int loaded(Wasmhall hall, String text) {
+        put(hall, text);
+        return hall.load();
+    }
+
+    static String output(Wasmhall hall) {
+        StringBuilder text = new StringBuilder();
+        for (int i = 0; hall.output(i) != Wasmhall.NONE; i++) {
+            text.append((char) hall.output(i));
+        }
+        return text.toString();
+    }
+
+    /** Fault kind and place of a text, on a hall of its own. */
+    static String fault(String text) {
+        Wasmhall hall = new Wasmhall();
+        put(hall, text);
+        return hall.faultKind() + " " + hall.faultPlace();
+    }
+
+    static String typeOf(Wasmhall hall, int program, int definition) {
+        hall.typeOf(program, definition);
+        return output(hall);
+    }
+
+    static String code(Wasmhall hall, int module, int function) {
+        StringBuilder text = new StringBuilder();
+        for (int i = 0; i < hall.functionAt(module, function, 3); i++) {
+            int with = hall.opAt(module, function, i, 1);
+            text.append(i == 0 ? "" : " ").append(hall.opAt(module, function, i, 0));
+            if (with != Wasmhall.NONE || hall.opAt(module, function, i, 0) == 65) {
+                text.append(":").append(with);
+            }
+        }
+        return text.toString();
+    }
+
+    static void putBytes(Wasmhall hall, int... bytes) {
+        for (int b : bytes) {
+            hall.bytes(b, 1);
+        }
+    }
+
+    static String bytes(Wasmhall hall) {
+        StringBuilder text = new StringBuilder();
+        for (int i = 0; hall.byteAt(i) != Wasmhall.NONE; i++) {
+            text.append(i == 0 ? "" : " ").append(hall.byteAt(i));
+        }
+        return text.toString();
+    }
+}
