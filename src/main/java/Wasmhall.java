@@ -396,7 +396,7 @@ public final class Wasmhall {
         }
         switch (what) {
             case 0:
-                return found.types.size();
+                return found.types.size;
             case 1:
                 return found.importCount();
             case 2:
@@ -404,10 +404,10 @@ public final class Wasmhall {
             case 3:
                 return found.tableEntries();
             case 4:
-                return found.exportFunction.size();
+                return found.exportFunction.size;
             case 5:
                 otherCoder.code(found);
-                return otherCoder.codedBytes().size();
+                return otherCoder.codedBytes().size;
             case 6:
                 return found.isMade() ? 1 : 0;
             case 7:
@@ -459,7 +459,7 @@ public final class Wasmhall {
             throw new IllegalArgumentException("no byte");
         }
         int count = 0;
-        for (int i = 0; i < found.op.size(); i++) {
+        for (int i = 0; i < found.op.size; i++) {
             if (found.op.get(i) == code) {
                 count++;
             }
@@ -473,32 +473,32 @@ public final class Wasmhall {
         if (many < 1 || many > 8) {
             throw new IllegalArgumentException("one to eight bytes");
         }
-        if (coded.size() + many > MOST_BYTES) {
+        if (coded.size + many > MOST_BYTES) {
             throw new IllegalStateException("too many bytes");
         }
         for (int shift = 8 * (many - 1); shift >= 0; shift -= 8) {
             coded.add((int) ((eight >>> shift) & 255));
         }
-        return coded.size();
+        return coded.size;
     }
 
     public int write(int module) throws IndexOutOfBoundsException, IllegalStateException {
         Module found = moduleOf(module);
         otherCoder.code(found);
-        if (otherCoder.codedBytes().size() > MOST_BYTES) {
+        if (otherCoder.codedBytes().size > MOST_BYTES) {
             throw new IllegalStateException("too many bytes");
         }
         coded.clear();
         coded.addAll(otherCoder.codedBytes());
-        return coded.size();
+        return coded.size;
     }
 
     public int byteAt(int index) {
-        return index >= 0 && index < coded.size() ? coded.get(index) : NONE;
+        return index >= 0 && index < coded.size ? coded.get(index) : NONE;
     }
 
     public int setByte(int index, int value) throws IndexOutOfBoundsException, IllegalArgumentException {
-        if (index < 0 || index >= coded.size()) {
+        if (index < 0 || index >= coded.size) {
             throw new IndexOutOfBoundsException("no such byte");
         }
         if (value < 0 || value > 255) {
@@ -510,7 +510,7 @@ public final class Wasmhall {
     }
 
     public int cutBytes(int many) throws IllegalArgumentException {
-        int before = coded.size();
+        int before = coded.size;
         if (many < 0 || many > before) {
             throw new IllegalArgumentException("not so many bytes");
         }
@@ -521,7 +521,10 @@ public final class Wasmhall {
     public int read() throws IllegalStateException {
         needModuleRoom();
         Module module = freeModule();
-        coder.decode(coded, module, checker);
+        coder.decode(coded, module);
+        if (coder.faultKindFound() == 0) {
+            coder.noteInvalid(checker.firstInvalid(module));
+        }
         if (coder.faultKindFound() != 0) {
             return NONE;
         }
@@ -551,7 +554,7 @@ public final class Wasmhall {
     public int begin(int module, int export, int a, int b, int c)
             throws IndexOutOfBoundsException, IllegalStateException, IllegalArgumentException {
         Module found = moduleOf(module);
-        if (export < 0 || export >= found.exportFunction.size()) {
+        if (export < 0 || export >= found.exportFunction.size) {
             throw new IndexOutOfBoundsException("no such export");
         }
         int function = found.exportFunction.get(export);
@@ -693,19 +696,19 @@ public final class Wasmhall {
         if (how == MEANT_DIVISION || state != STATE_ENDED) {
             return how == MEANT_DIVISION && state == STATE_ENDED + TRAP_DIVISION ? 1 : 0;
         }
-        return sameValues(tree, definition) ? 1 : 0;
-    }
-
-    private boolean sameValues(Tree tree, int definition) {
         meantWritten.writeMeant(tree, definition, meaning);
         givenWritten.writeGiven(spareRun);
-        return meantWritten.isLike(givenWritten);
+        return meantWritten.isLike(givenWritten) ? 1 : 0;
     }
 
     public int errors() {
         int count = 0;
         for (int i = 0; i < moduleCount; i++) {
-            if (!standsTheTheorem(moduleOf(i))) {
+            Module module = moduleOf(i);
+            boolean stands = checker.firstInvalid(module) == NONE;
+            otherCoder.code(module);
+            otherCoder.decode(otherCoder.codedBytes(), spareModule);
+            if (!stands || otherCoder.faultKindFound() != 0 || !module.isLike(spareModule)) {
                 count++;
             }
         }
@@ -715,16 +718,6 @@ public final class Wasmhall {
             }
         }
         return count;
-    }
-
-    /** Whether a module is valid, and the same when it is written and read. */
-    private boolean standsTheTheorem(Module module) {
-        if (checker.firstInvalid(module) != NONE) {
-            return false;
-        }
-        otherCoder.code(module);
-        otherCoder.decode(otherCoder.codedBytes(), spareModule, checker);
-        return otherCoder.faultKindFound() == 0 && module.isLike(spareModule);
     }
 
     public int checksum() {
@@ -748,7 +741,7 @@ public final class Wasmhall {
 
     public float countedShare(int module) throws IndexOutOfBoundsException {
         Module found = moduleOf(module);
-        int all = found.op.size();
+        int all = found.op.size;
         if (all <= 0) {
             return 0.0f;
         }
@@ -766,14 +759,11 @@ public final class Wasmhall {
     private static final class Ints {
         private static final int MOST_ROOM = 1 << 23;
         private int[] row;
+        /** How many numbers there are. */
         private int size;
 
         Ints(int room) {
             row = new int[room > 0 ? room : 1];
-        }
-
-        int size() {
-            return size;
         }
 
         int get(int i) {
@@ -787,7 +777,9 @@ public final class Wasmhall {
         }
 
         void change(int i, int difference) {
-            set(i, get(i) + difference);
+            if (i >= 0 && i < size && i < row.length) {
+                row[i] += difference;
+            }
         }
 
         void add(int number) {
@@ -807,13 +799,16 @@ public final class Wasmhall {
         }
 
         int top(int depth) {
-            return depth < 0 ? 0 : get(size - 1 - depth);
+            int i = size - 1 - depth;
+            return i >= 0 && i < size && i < row.length ? row[i] : 0;
         }
 
         int pop() {
-            int number = top(0);
-            cut(size - 1);
-            return number;
+            if (size <= 0 || size > row.length) {
+                return 0;
+            }
+            size--;
+            return row[size];
         }
 
         void cut(int many) {
@@ -828,8 +823,16 @@ public final class Wasmhall {
 
         /** Makes it so long at least, by zeros. */
         void reach(int many) {
-            for (int i = size; i < many; i++) {
-                add(0);
+            int room = row.length;
+            for (int i = 0; i < 30 && room < many && room < MOST_ROOM; i++) {
+                room *= 2;
+            }
+            if (room > row.length) {
+                row = Arrays.copyOf(row, room);
+            }
+            while (size < many && size < row.length) {
+                row[size] = 0;
+                size++;
             }
         }
 
@@ -940,8 +943,8 @@ public final class Wasmhall {
             next.add(NONE);
             sign.add(0);
             amount.add(itsAmount);
-            nodeOfToken.set(itsToken, sort.size() - 1);
-            return sort.size() - 1;
+            nodeOfToken.set(itsToken, sort.size - 1);
+            return sort.size - 1;
         }
 
         /** Puts a part behind the one before it (or as the first one), with the sign that stands ahead of it. */
@@ -966,7 +969,7 @@ public final class Wasmhall {
 
         int partCount(int node) {
             int count = 0;
-            for (int p = child.get(node); p != NONE && count < sort.size(); p = next.get(p)) {
+            for (int p = child.get(node); p != NONE && count < sort.size; p = next.get(p)) {
                 count++;
             }
             return count;
@@ -995,7 +998,7 @@ public final class Wasmhall {
         }
 
         int definitionCount() {
-            return definitionToken.size();
+            return definitionToken.size;
         }
 
         int parametersOf(int definition) {
@@ -1004,14 +1007,14 @@ public final class Wasmhall {
 
         /** The first token behind a definition. */
         int endOfDefinition(int definition) {
-            return definition + 1 < definitionCount() ? definitionToken.get(definition + 1) : kind.size();
+            return definition + 1 < definitionCount() ? definitionToken.get(definition + 1) : kind.size;
         }
 
         /** The first place in the stored types behind the one that begins at a place. */
         int typeEnd(int begin) {
             int lacking = 1;
             int at = begin;
-            for (; at < types.size() && lacking > 0; at++) {
+            for (; at < types.size && lacking > 0; at++) {
                 int what = types.get(at);
                 if (what == TYPE_PAIR || what == TYPE_ARROW) {
                     lacking++;
@@ -1093,7 +1096,7 @@ public final class Wasmhall {
         }
 
         int length() {
-            return text.size();
+            return text.size;
         }
 
         void put(int sign) {
@@ -1132,21 +1135,28 @@ public final class Wasmhall {
             namePlace = NONE;
             tree.clear();
             scan();
-            program();
+            at = 0;
+            open = 0;
+            for (int i = 0; i < MOST_DEFINITIONS && faultKind == 0 && here() == TOKEN_DEF; i++) {
+                definition(i);
+            }
+            if (faultKind == 0 && here() != TOKEN_END) {
+                refuse();
+            }
             if (faultKind == 0 && namePlace != NONE) {
                 faultKind = 2;
                 faultPlace = namePlace;
             }
-            if (faultKind == 0) {
-                int misfit = typer.firstMisfit(tree);
-                faultKind = misfit == NONE ? 0 : 3;
-                faultPlace = misfit;
+            typer.take(tree);
+            for (int d = 0; d < tree.definitionCount() && faultKind == 0; d++) {
+                faultPlace = typer.misfitOf(d);
+                faultKind = faultPlace == NONE ? 0 : 3;
             }
         }
 
         private void scan() {
             int i = 0;
-            while (i < text.size()) {
+            while (i < text.size) {
                 int sign = text.get(i);
                 if (sign == 32 || sign == 10) {
                     i++;
@@ -1158,7 +1168,7 @@ public final class Wasmhall {
                     i = Math.max(i + 1, scanSign(i));
                 }
             }
-            tree.addToken(TOKEN_END, text.size(), 0);
+            tree.addToken(TOKEN_END, text.size, 0);
         }
 
         private static boolean isLetter(int sign) {
@@ -1172,11 +1182,11 @@ public final class Wasmhall {
         private int scanName(int begin) {
             int pack = 0;
             int i = begin;
-            for (; i < text.size() && (isLetter(text.get(i)) || isDigit(text.get(i))); i++) {
+            for (; i < text.size && (isLetter(text.get(i)) || isDigit(text.get(i))); i++) {
                 pack = packedWith(pack, text.get(i));
             }
             int kind = TOKEN_NAME;
-            for (int w = 0; w < words.size(); w++) {
+            for (int w = 0; w < words.size; w++) {
                 if (words.get(w) == pack) {
                     kind = FIRST_WORD + w;
                 }
@@ -1188,7 +1198,7 @@ public final class Wasmhall {
         private int scanNumber(int begin) {
             int number = 0;
             int i = begin;
-            for (; i < text.size() && isDigit(text.get(i)); i++) {
+            for (; i < text.size && isDigit(text.get(i)); i++) {
                 number = 10 * number + text.get(i) - '0';
             }
             tree.addToken(i - begin > MOST_DIGITS ? TOKEN_BAD : TOKEN_NUMBER, begin, number);
@@ -1246,17 +1256,6 @@ public final class Wasmhall {
                     return TOKEN_LESS;
                 default:
                     return TOKEN_BAD;
-            }
-        }
-
-        private void program() {
-            at = 0;
-            open = 0;
-            for (int i = 0; i < MOST_DEFINITIONS && faultKind == 0 && here() == TOKEN_DEF; i++) {
-                definition(i);
-            }
-            if (faultKind == 0 && here() != TOKEN_END) {
-                refuse();
             }
         }
 
@@ -1335,7 +1334,8 @@ public final class Wasmhall {
         private void bind(int nameToken, int begin) {
             boolean second = false;
             for (int i = begin; i < nameToken; i++) {
-                second = second || tree.kind.get(i) == TOKEN_NAME && isSameName(i, nameToken);
+                second = second || tree.kind.get(i) == TOKEN_NAME
+                        && tree.number.get(i) == tree.number.get(nameToken);
             }
             if (second) {
                 noteName(nameToken);
@@ -1358,7 +1358,7 @@ public final class Wasmhall {
             open++;
             int begin = at;
             at++;
-            int bindings = scope.size();
+            int bindings = scope.size;
             int node = kind == TOKEN_LET ? let(begin) : kind == TOKEN_IF ? condition(begin)
                     : kind == TOKEN_FUN ? function(begin) : choice(begin);
             scope.cut(bindings);
@@ -1554,7 +1554,7 @@ public final class Wasmhall {
         }
 
         private void resolve(int name) {
-            for (int i = scope.size() - 1; i >= 0; i--) {
+            for (int i = scope.size - 1; i >= 0; i--) {
                 if (isSameName(scope.get(i), name)) {
                     tree.bound.set(name, scope.get(i));
                     return;
@@ -1621,23 +1621,11 @@ public final class Wasmhall {
         private int latestMark;
         private int misfit = NONE;
 
-        /** Stores the types of the definitions in the tree; answers the place of the first fault, or NONE. */
-        int firstMisfit(Tree whole) {
+        void take(Tree whole) {
             tree = whole;
             misfit = NONE;
-            typeOfNode.zeros(tree.sort.size());
-            typeOfBinder.zeros(tree.kind.size());
-            for (int d = 0; d < tree.definitionCount() && misfit == NONE; d++) {
-                kind.clear();
-                left.clear();
-                right.clear();
-                mark.clear();
-                latestMark = 0;
-                newType(TYPE_NUM, 0, 0);
-                newType(TYPE_TRUTH, 0, 0);
-                definition(d);
-            }
-            return misfit;
+            typeOfNode.zeros(tree.sort.size);
+            typeOfBinder.zeros(tree.kind.size);
         }
 
         private int newType(int itsKind, int itsLeft, int itsRight) {
@@ -1645,14 +1633,26 @@ public final class Wasmhall {
             left.add(itsLeft);
             right.add(itsRight);
             mark.add(0);
-            return kind.size() - 1;
+            return kind.size - 1;
         }
 
         private int newVariable() {
             return newType(TYPE_VARIABLE, 0, 0);
         }
 
-        private void definition(int which) {
+        private void clearTypes() {
+            kind.clear();
+            left.clear();
+            right.clear();
+            mark.clear();
+            latestMark = 0;
+            newType(TYPE_NUM, 0, 0);
+            newType(TYPE_TRUTH, 0, 0);
+        }
+
+        /** Finds the type of a definition and stores it in the tree; answers the place of a fault, or NONE. */
+        int misfitOf(int which) {
+            clearTypes();
             int many = tree.parametersOf(which);
             int name = tree.definitionToken.get(which);
             for (int i = 1; i <= many; i++) {
@@ -1664,13 +1664,14 @@ public final class Wasmhall {
             int body = tree.definitionBody.get(which);
             int found = find(body, 0);
             if (found == NONE) {
-                return;
+                return misfit;
             }
             if (!unify(found, result) || parts(ownType) > MOST_PARTS) {
                 refuse(body);
             } else {
                 store(ownType);
             }
+            return misfit;
         }
 
         /** The type of a function whose names are so many tokens from the first one on. */
@@ -1755,7 +1756,7 @@ public final class Wasmhall {
                 if (what >= TYPE_VARIABLE) {
                     int letter = what - TYPE_VARIABLE;
                     if (letters.get(letter) == 0) {
-                        letters.set(letter, newVariable());
+                        letters.set(letter, newType(TYPE_VARIABLE, 0, 0));
                     }
                     work.add(letters.get(letter));
                 } else if (what == TYPE_NUM || what == TYPE_TRUTH) {
@@ -1835,7 +1836,7 @@ public final class Wasmhall {
             }
             int behind = row.pop();
             int type = typeOfNode.get(behind);
-            for (int i = 0; i < MOST_TEXT && row.size() > 0; i++) {
+            for (int i = 0; i < MOST_TEXT && row.size > 0; i++) {
                 int ahead = row.pop();
                 if (!unify(type, newType(TYPE_LIST, typeOfNode.get(ahead), 0))) {
                     return refuse(behind);
@@ -1911,7 +1912,7 @@ public final class Wasmhall {
 
         private int root(int type) {
             int found = type;
-            for (int i = 0; i < kind.size() && kind.get(found) == TYPE_LINK; i++) {
+            for (int i = 0; i < kind.size && kind.get(found) == TYPE_LINK; i++) {
                 found = left.get(found);
             }
             return found;
@@ -1923,7 +1924,7 @@ public final class Wasmhall {
             work.clear();
             work.add(one);
             work.add(other);
-            for (int i = 0; i < FAR && work.size() > 0; i++) {
+            for (int i = 0; i < FAR && work.size > 0; i++) {
                 int a = root(work.pop());
                 int b = root(work.pop());
                 if (a == b) {
@@ -1959,7 +1960,8 @@ public final class Wasmhall {
             }
             work.add(left.get(a));
             work.add(left.get(b));
-            link(a, b);
+            kind.set(a, TYPE_LINK);
+            left.set(a, b);
         }
 
         /** Goes down from a type; one that is met again while its own parts are gone through has no end. */
@@ -1969,7 +1971,7 @@ public final class Wasmhall {
             latestMark += 2;
             work.clear();
             work.add(type);
-            for (int i = 0; i < FAR && work.size() > 0; i++) {
+            for (int i = 0; i < FAR && work.size > 0; i++) {
                 int entry = work.pop();
                 if (entry < 0) {
                     mark.set(-1 - entry, done);
@@ -1998,7 +2000,7 @@ public final class Wasmhall {
             int count = 0;
             work.clear();
             work.add(type);
-            for (int i = 0; i <= MOST_PARTS && work.size() > 0; i++) {
+            for (int i = 0; i <= MOST_PARTS && work.size > 0; i++) {
                 int at = root(work.pop());
                 count++;
                 addParts(at);
@@ -2019,11 +2021,11 @@ public final class Wasmhall {
 
         /** Writes a type behind the stored ones: each sort ahead of its parts, variables by when they come. */
         private void store(int type) {
-            tree.typeStart.add(tree.types.size());
+            tree.typeStart.add(tree.types.size);
             letters.clear();
             work.clear();
             work.add(type);
-            for (int i = 0; i <= MOST_PARTS && work.size() > 0; i++) {
+            for (int i = 0; i <= MOST_PARTS && work.size > 0; i++) {
                 int at = root(work.pop());
                 int itsKind = kind.get(at);
                 tree.types.add(itsKind == TYPE_VARIABLE ? TYPE_VARIABLE + letterOf(at) : itsKind);
@@ -2032,13 +2034,13 @@ public final class Wasmhall {
         }
 
         private int letterOf(int variable) {
-            for (int i = 0; i < letters.size(); i++) {
+            for (int i = 0; i < letters.size; i++) {
                 if (letters.get(i) == variable) {
                     return i;
                 }
             }
             letters.add(variable);
-            return letters.size() - 1;
+            return letters.size - 1;
         }
     }
 
@@ -2049,6 +2051,7 @@ public final class Wasmhall {
         private static final int ITEM_REST = 1;
         private static final int ITEM_COMMA = 2;
         private static final int ITEM_CLOSE = 3;
+        private static final int ITEM_FIRST = 4;
         /** In the work on types: what is below 0 is no place of a type, but one of these. */
         private static final int CLOSE_ROUND = -1;
         private static final int CLOSE_SQUARE = -2;
@@ -2062,7 +2065,7 @@ public final class Wasmhall {
         private Host host;
 
         int length() {
-            return signs.size();
+            return signs.size;
         }
 
         int sign(int index) {
@@ -2074,7 +2077,7 @@ public final class Wasmhall {
         }
 
         private void put(int sign) {
-            if (signs.size() < MOST_SIGNS) {
+            if (signs.size < MOST_SIGNS) {
                 signs.add(sign);
             }
         }
@@ -2105,7 +2108,7 @@ public final class Wasmhall {
             signs.clear();
             work.clear();
             work.add(tree.typeStart.get(definition));
-            for (int i = 0; i < FAR && work.size() > 0; i++) {
+            for (int i = 0; i < FAR && work.size > 0; i++) {
                 int item = work.pop();
                 if (item < 0) {
                     putMark(item);
@@ -2194,14 +2197,14 @@ public final class Wasmhall {
             signs.clear();
             work.clear();
             lay(ITEM_VALUE, value, tree.resultType(definition));
-            for (int i = 0; i < FAR && work.size() > 0 && signs.size() < MOST_SIGNS; i++) {
+            for (int i = 0; i < FAR && work.size > 0 && signs.size < MOST_SIGNS; i++) {
                 int at = work.pop();
                 int itsValue = work.pop();
                 int item = work.pop();
                 if (item == ITEM_VALUE) {
                     putValue(itsValue, at);
-                } else if (item == ITEM_REST) {
-                    putRest(itsValue, at, false);
+                } else if (item == ITEM_REST || item == ITEM_FIRST) {
+                    putRest(itsValue, at, item == ITEM_FIRST);
                 } else {
                     put(item == ITEM_COMMA ? ", " : ")");
                 }
@@ -2220,7 +2223,7 @@ public final class Wasmhall {
                 put(isYes(value) ? "yes" : "no");
             } else if (what == TYPE_LIST) {
                 put('[');
-                putRest(value, at, true);
+                lay(ITEM_FIRST, value, at);
             } else if (what == TYPE_PAIR) {
                 put('(');
                 lay(ITEM_CLOSE, 0, 0);
@@ -2329,7 +2332,7 @@ public final class Wasmhall {
                 tree.planned.add(tree.parametersOf(d));
             }
             for (int d = 0; d < tree.definitionCount(); d++) {
-                tree.planned.set(2 * d, tree.plan.size());
+                tree.planned.set(2 * d, tree.plan.size);
                 scope.clear();
                 for (int i = 1; i <= tree.parametersOf(d); i++) {
                     scope.add(tree.definitionToken.get(d) + i);
@@ -2347,11 +2350,11 @@ public final class Wasmhall {
         /** Lays down a jump whose aim is told later by land(). */
         private int jump(int what) {
             deed(what, 0);
-            return tree.plan.size() - 1;
+            return tree.plan.size - 1;
         }
 
         private void land(int jump) {
-            tree.plan.set(jump, tree.plan.size());
+            tree.plan.set(jump, tree.plan.size);
         }
 
         private void plan(int node, int depth) {
@@ -2400,7 +2403,7 @@ public final class Wasmhall {
             }
             int binder = tree.bound.get(atom);
             int outwards = 0;
-            for (int i = scope.size() - 1; i >= 0 && scope.get(i) != binder; i--) {
+            for (int i = scope.size - 1; i >= 0 && scope.get(i) != binder; i--) {
                 outwards++;
             }
             deed(DO_NAME, outwards);
@@ -2408,7 +2411,7 @@ public final class Wasmhall {
 
         private void unbind(int many) {
             deed(DO_UNBIND, many);
-            scope.cut(scope.size() - many);
+            scope.cut(scope.size - many);
         }
 
         /** All that works its parts out from the left to the right. */
@@ -2448,15 +2451,15 @@ public final class Wasmhall {
 
         private void planFun(int node, int depth) {
             int many = tree.amount.get(node);
-            deed(DO_FUNCTION, tree.planned.size() / 2);
+            deed(DO_FUNCTION, tree.planned.size / 2);
             int over = jump(DO_JUMP);
-            tree.planned.add(tree.plan.size());
+            tree.planned.add(tree.plan.size);
             tree.planned.add(many);
             for (int i = 1; i <= many; i++) {
                 scope.add(tree.token.get(node) + i);
             }
             plan(tree.part(node, 0), depth);
-            scope.cut(scope.size() - many);
+            scope.cut(scope.size - many);
             deed(DO_RETURN, 0);
             land(over);
         }
@@ -2511,7 +2514,7 @@ public final class Wasmhall {
         private int cell(int one, int other) {
             heap.add(one);
             heap.add(other);
-            return heap.size() - 2;
+            return heap.size - 2;
         }
 
         private void act(int what, int with) {
@@ -2589,7 +2592,7 @@ public final class Wasmhall {
             heap.add(which);
             heap.add(around);
             heap.add(lacking);
-            return heap.size() - 3;
+            return heap.size - 3;
         }
 
         private void apply() {
@@ -2704,6 +2707,8 @@ public final class Wasmhall {
         private final Ints aim = new Ints(256);
         /** The function at each entry of the table, or NONE; the checker finds it. */
         private final Ints table = new Ints(32);
+        /** The type of each function, imports ahead, in the form of types; the checker finds it. */
+        private final Ints shapes = new Ints(32);
         /** The program that it was made of; null if it was read. */
         private Tree tree;
 
@@ -2726,6 +2731,7 @@ public final class Wasmhall {
             argument.clear();
             aim.clear();
             table.clear();
+            shapes.clear();
             tree = null;
         }
 
@@ -2738,15 +2744,15 @@ public final class Wasmhall {
         }
 
         int importCount() {
-            return importHost.size();
+            return importHost.size;
         }
 
         int ownCount() {
-            return functionType.size();
+            return functionType.size;
         }
 
         int functionCount() {
-            return importHost.size() + functionType.size();
+            return importHost.size + functionType.size;
         }
 
         int tableEntries() {
@@ -2762,33 +2768,29 @@ public final class Wasmhall {
         }
 
         int instructionsOf(int own) {
-            return (own + 1 < starts.size() ? starts.get(own + 1) : op.size()) - starts.get(own);
+            return (own + 1 < starts.size ? starts.get(own + 1) : op.size) - starts.get(own);
         }
 
         int typeNumber(int function) {
-            return function < importCount() ? importType.get(function) : functionType.get(function - importCount());
+            int own = function - importHost.size;
+            return own < 0 ? importType.get(function) : functionType.get(own);
         }
 
         int typeOfFunction(int function) {
-            return types.get(typeNumber(function));
+            return shapes.get(function);
         }
 
         int parametersOf(int function) {
-            return typeOfFunction(function) >> 1;
+            return shapes.get(function) >> 1;
         }
 
         /** Which function of the host a function is, or NONE. */
         int hostOf(int function) {
-            return function >= 0 && function < importCount() ? importHost.get(function) : NONE;
-        }
-
-        void addInstruction(int code, int with) {
-            op.add(code);
-            argument.add(with);
+            return function >= 0 && function < importHost.size ? importHost.get(function) : NONE;
         }
 
         void addExport(long name, int length, int function) {
-            int which = exportLength.size();
+            int which = exportLength.size;
             if (which < exportName.length) {
                 exportName[which] = name;
                 exportLength.add(length);
@@ -2813,7 +2815,7 @@ public final class Wasmhall {
 
         private boolean hasLikeExports(Module other) {
             boolean like = exportLength.isLike(other.exportLength) && exportFunction.isLike(other.exportFunction);
-            for (int i = 0; like && i < exportLength.size(); i++) {
+            for (int i = 0; like && i < exportLength.size; i++) {
                 like = nameOfExport(i) == other.nameOfExport(i);
             }
             return like;
@@ -2892,10 +2894,10 @@ public final class Wasmhall {
             numberFunctions();
             putFrame();
             putApply();
-            for (int i = 0; i < owners.size(); i++) {
+            for (int i = 0; i < owners.size; i++) {
                 putFunction(owners.get(i), level);
             }
-            for (int i = 0; i < owners.size(); i++) {
+            for (int i = 0; i < owners.size; i++) {
                 if (parameters.get(owners.get(i)) > 0) {
                     putWrapper(function.get(owners.get(i)), parameters.get(owners.get(i)));
                 }
@@ -2982,7 +2984,7 @@ public final class Wasmhall {
         // Names, functions, locals.
 
         private void lookAtAtoms() {
-            int tokens = tree.kind.size();
+            int tokens = tree.kind.size;
             uses.zeros(tokens);
             needed.zeros(tokens);
             mark.zeros(tokens);
@@ -2993,7 +2995,7 @@ public final class Wasmhall {
                     uses.change(tree.bound.get(t), 1);
                 }
             }
-            for (int n = 0; n < tree.sort.size(); n++) {
+            for (int n = 0; n < tree.sort.size; n++) {
                 int first = tree.sort.get(n) == NODE_USE ? tree.part(n, 0) : NONE;
                 if (tree.namedDefinition(first) != NONE) {
                     followers.set(tree.token.get(first), tree.partCount(n) - 1);
@@ -3002,7 +3004,7 @@ public final class Wasmhall {
         }
 
         private void numberFunctions() {
-            int tokens = tree.kind.size();
+            int tokens = tree.kind.size;
             function.zeros(tokens);
             wrapper.zeros(tokens);
             parameters.zeros(tokens);
@@ -3014,13 +3016,13 @@ public final class Wasmhall {
                 for (int t = name; t < tree.endOfDefinition(d); t++) {
                     if (tree.kind.get(t) == TOKEN_FUN) {
                         findCaught(t);
-                        parameters.set(t, caught.size() + tree.amount.get(tree.nodeOfToken.get(t)));
+                        parameters.set(t, caught.size + tree.amount.get(tree.nodeOfToken.get(t)));
                         owners.add(t);
                     }
                 }
             }
             int wrappers = 0;
-            for (int i = 0; i < owners.size(); i++) {
+            for (int i = 0; i < owners.size; i++) {
                 function.set(owners.get(i), APPLY + 1 + i);
                 if (parameters.get(owners.get(i)) > 0) {
                     wrapper.set(owners.get(i), wrappers);
@@ -3056,10 +3058,10 @@ public final class Wasmhall {
             int own = parameters.get(owner);
             if (tree.kind.get(owner) == TOKEN_FUN) {
                 findCaught(owner);
-                for (int i = 0; i < caught.size(); i++) {
+                for (int i = 0; i < caught.size; i++) {
                     addLocal(caught.get(i));
                 }
-                own -= caught.size();
+                own -= caught.size;
             }
             for (int i = 1; i <= own; i++) {
                 addLocal(owner + i);
@@ -3089,7 +3091,7 @@ public final class Wasmhall {
 
         private void putFrame() {
             int most = 2;
-            for (int i = 0; i < owners.size(); i++) {
+            for (int i = 0; i < owners.size; i++) {
                 most = Math.max(most, parameters.get(owners.get(i)));
             }
             for (int k = 0; k <= most; k++) {
@@ -3100,9 +3102,9 @@ public final class Wasmhall {
                 module.importHost.add(h);
                 module.importType.add(h == HOST_DROP ? most + 1 : Module.hostType(h) >> 1);
             }
-            int firstWrapper = APPLY + 1 + owners.size();
+            int firstWrapper = APPLY + 1 + owners.size;
             int wrappers = 0;
-            for (int i = 0; i < owners.size(); i++) {
+            for (int i = 0; i < owners.size; i++) {
                 if (parameters.get(owners.get(i)) > 0) {
                     module.elementFunction.add(firstWrapper + wrappers);
                     wrappers++;
@@ -3132,11 +3134,13 @@ public final class Wasmhall {
         }
 
         private void put(int code) {
-            module.addInstruction(code, NONE);
+            module.op.add(code);
+            module.argument.add(NONE);
         }
 
         private void put(int code, int with) {
-            module.addInstruction(code, with);
+            module.op.add(code);
+            module.argument.add(with);
         }
 
         private void putConst(int word) {
@@ -3149,7 +3153,7 @@ public final class Wasmhall {
 
         private void beginCode(int itsParameters) {
             module.functionType.add(itsParameters);
-            module.starts.add(module.op.size());
+            module.starts.add(module.op.size);
         }
 
         private void putApply() {
@@ -3278,7 +3282,7 @@ public final class Wasmhall {
 
         private void putDrop(int binder) {
             put(OP_GET, local.get(binder));
-            call(HOST_DROP);
+            put(OP_CALL, HOST_DROP);
         }
 
         /** Whether a use of the definition with all its parameters is in a last place of an exp. */
@@ -3357,7 +3361,7 @@ public final class Wasmhall {
         private void putLocal(int binder) {
             put(OP_GET, local.get(binder));
             if (needed.get(binder) > 0) {
-                call(HOST_DUP);
+                put(OP_CALL, HOST_DUP);
             }
         }
 
@@ -3394,7 +3398,7 @@ public final class Wasmhall {
         }
 
         private void putWith(int operand, int code) {
-            putConst(operand);
+            put(OP_CONST, operand);
             put(code);
         }
 
@@ -3443,8 +3447,10 @@ public final class Wasmhall {
 
         private void putShifted(int code) {
             put(code);
-            putWith(1, OP_SHL);
-            putWith(1, OP_ADD);
+            put(OP_CONST, 1);
+            put(OP_SHL);
+            put(OP_CONST, 1);
+            put(OP_ADD);
         }
 
         private void putUse(int node, boolean isLast, int depth) {
@@ -3524,8 +3530,8 @@ public final class Wasmhall {
         private void putFun(int fun) {
             int hidden = local.get(fun);
             findCaught(fun);
-            putRoom(hidden, wrapper.get(fun), parameters.get(fun), caught.size());
-            for (int i = 0; i < caught.size(); i++) {
+            putRoom(hidden, wrapper.get(fun), parameters.get(fun), caught.size);
+            for (int i = 0; i < caught.size; i++) {
                 put(OP_GET, hidden);
                 putLocal(caught.get(i));
                 put(OP_STORE, 16 + 4 * i);
@@ -3744,7 +3750,7 @@ public final class Wasmhall {
         /** Puts what lies in the part as a section, and empties it. */
         private void putSection(int number) {
             out.add(number);
-            putNumber(out, part.size());
+            putNumber(out, part.size);
             out.addAll(part);
             part.clear();
         }
@@ -3776,15 +3782,15 @@ public final class Wasmhall {
 
         /** A row of numbers. */
         private void putAll(Ints numbers) {
-            putNumber(part, numbers.size());
-            for (int i = 0; i < numbers.size(); i++) {
+            putNumber(part, numbers.size);
+            for (int i = 0; i < numbers.size; i++) {
                 putNumber(part, numbers.get(i));
             }
         }
 
         private void putTypes() {
-            putNumber(part, module.types.size());
-            for (int i = 0; i < module.types.size(); i++) {
+            putNumber(part, module.types.size);
+            for (int i = 0; i < module.types.size; i++) {
                 int type = module.types.get(i);
                 part.add(96);
                 putNumber(part, type >> 1);
@@ -3814,8 +3820,8 @@ public final class Wasmhall {
         }
 
         private void putExports() {
-            putNumber(part, module.exportFunction.size());
-            for (int i = 0; i < module.exportFunction.size(); i++) {
+            putNumber(part, module.exportFunction.size);
+            for (int i = 0; i < module.exportFunction.size; i++) {
                 int length = module.exportLength.get(i);
                 putNumber(part, length);
                 for (int k = length - 1; k >= 0; k--) {
@@ -3827,9 +3833,9 @@ public final class Wasmhall {
         }
 
         private void putElements() {
-            putNumber(part, module.elementPlace.size());
+            putNumber(part, module.elementPlace.size);
             int next = 0;
-            for (int i = 0; i < module.elementPlace.size(); i++) {
+            for (int i = 0; i < module.elementPlace.size; i++) {
                 part.add(0);
                 part.add(OP_CONST);
                 putSigned(part, module.elementPlace.get(i));
@@ -3857,7 +3863,7 @@ public final class Wasmhall {
                 for (int i = begin; i < end; i++) {
                     putInstruction(module.op.get(i), module.argument.get(i));
                 }
-                putNumber(part, body.size());
+                putNumber(part, body.size);
                 part.addAll(body);
             }
         }
@@ -3955,8 +3961,8 @@ public final class Wasmhall {
 
         // Reading.
 
-        /** Reads bytes into a module, which is of use only if no fault is found. */
-        void decode(Ints bytes, Module into, Checker checker) {
+        /** Reads bytes into a module, which is of use only if no fault is found, and its instructions are valid. */
+        void decode(Ints bytes, Module into) {
             in = bytes;
             module = into;
             module.clear();
@@ -3966,15 +3972,31 @@ public final class Wasmhall {
             for (int i = 0; i < HEAD.length; i++) {
                 exact(HEAD[i]);
             }
-            sections();
-            if (faultKind == 0) {
+            int latest = 0;
+            for (int i = 0; i < FAR && isGood() && at < in.size; i++) {
+                int number = nextByte();
+                if (!isSection(number) || number <= latest) {
+                    refuse(at - 1);
+                }
+                latest = number;
+                long size = number();
+                int begin = at;
+                if (isGood()) {
+                    section(number);
+                }
+                if (at - begin != size) {
+                    refuse(at);
+                }
+            }
+            if (isGood()) {
                 holdTogether();
             }
-            if (faultKind == 0) {
-                int invalid = checker.firstInvalid(module);
-                faultKind = invalid == NONE ? 0 : 3;
-                faultPlace = invalid;
-            }
+        }
+
+        /** Notes where the module that was read is not valid, if it is not. */
+        void noteInvalid(int place) {
+            faultKind = place == NONE ? 0 : 3;
+            faultPlace = place;
         }
 
         private void refuse(int place) {
@@ -3989,12 +4011,15 @@ public final class Wasmhall {
         }
 
         private int nextByte() {
-            if (at >= in.size()) {
-                refuse(in.size());
+            if (at < 0 || at >= in.size || at >= in.row.length) {
+                if (faultKind == 0) {
+                    faultKind = 1;
+                    faultPlace = in.size;
+                }
                 return 0;
             }
             at++;
-            return in.get(at - 1);
+            return in.row[at - 1];
         }
 
         private void exact(int due) {
@@ -4057,25 +4082,6 @@ public final class Wasmhall {
                 name = name << 8 | nextByte();
             }
             return name;
-        }
-
-        private void sections() {
-            int latest = 0;
-            for (int i = 0; i < FAR && isGood() && at < in.size(); i++) {
-                int number = nextByte();
-                if (!isSection(number) || number <= latest) {
-                    refuse(at - 1);
-                }
-                latest = number;
-                long size = number();
-                int begin = at;
-                if (isGood()) {
-                    section(number);
-                }
-                if (at - begin != size) {
-                    refuse(at);
-                }
-            }
         }
 
         private static boolean isSection(int number) {
@@ -4191,7 +4197,7 @@ public final class Wasmhall {
                 exact(OP_CONST);
                 module.elementPlace.add(signed());
                 exact(OP_END);
-                int functions = limited(MOST_ENTRIES - module.elementFunction.size());
+                int functions = limited(MOST_ENTRIES - module.elementFunction.size);
                 module.elementSize.add(functions);
                 for (int k = 0; k < functions && isGood(); k++) {
                     module.elementFunction.add((int) number());
@@ -4205,7 +4211,7 @@ public final class Wasmhall {
                 long size = number();
                 int begin = at;
                 readLocals();
-                module.starts.add(module.op.size());
+                module.starts.add(module.op.size);
                 readInstructions();
                 if (at - begin != size) {
                     refuse(at);
@@ -4240,7 +4246,8 @@ public final class Wasmhall {
                     refuse(begin);
                 }
                 if (isGood()) {
-                    module.addInstruction(code, readOperand(shapeOf(code)));
+                    module.op.add(code);
+                    module.argument.add(readOperand(shapeOf(code)));
                 }
             }
         }
@@ -4297,7 +4304,7 @@ public final class Wasmhall {
             if (!elementsHold()) {
                 refuseSection(SECTION_ELEMENTS);
             }
-            if (module.starts.size() != module.ownCount()) {
+            if (module.starts.size != module.ownCount()) {
                 refuseSection(SECTION_CODES);
             }
         }
@@ -4311,7 +4318,7 @@ public final class Wasmhall {
 
         /** Numbers of 2147483648 and more are below 0 here. */
         private boolean isType(int type) {
-            return type >= 0 && type < module.types.size();
+            return type >= 0 && type < module.types.size;
         }
 
         private boolean isFunction(int function) {
@@ -4330,7 +4337,7 @@ public final class Wasmhall {
 
         private boolean exportsHold() {
             boolean hold = true;
-            for (int i = 0; i < module.exportFunction.size(); i++) {
+            for (int i = 0; i < module.exportFunction.size; i++) {
                 hold = hold && isFunction(module.exportFunction.get(i));
                 for (int k = 0; k < i; k++) {
                     hold = hold && (module.nameOfExport(k) != module.nameOfExport(i)
@@ -4343,11 +4350,11 @@ public final class Wasmhall {
         private boolean elementsHold() {
             boolean hold = true;
             int entries = module.tableEntries();
-            for (int i = 0; i < module.elementPlace.size(); i++) {
+            for (int i = 0; i < module.elementPlace.size; i++) {
                 int place = module.elementPlace.get(i);
                 hold = hold && place >= 0 && place <= entries && module.elementSize.get(i) <= entries - place;
             }
-            for (int i = 0; i < module.elementFunction.size(); i++) {
+            for (int i = 0; i < module.elementFunction.size; i++) {
                 hold = hold && isFunction(module.elementFunction.get(i));
             }
             return hold;
@@ -4377,7 +4384,8 @@ public final class Wasmhall {
         /** The place of the first instruction that is not valid, or NONE. Fills aims and table of the module. */
         int firstInvalid(Module whole) {
             module = whole;
-            module.aim.zeros(module.op.size());
+            module.aim.zeros(module.op.size);
+            fillShapes();
             fillTable();
             for (int f = 0; f < module.ownCount(); f++) {
                 function = module.importCount() + f;
@@ -4392,13 +4400,20 @@ public final class Wasmhall {
             return NONE;
         }
 
+        private void fillShapes() {
+            module.shapes.clear();
+            for (int f = 0; f < module.functionCount(); f++) {
+                module.shapes.add(module.types.get(module.typeNumber(f)));
+            }
+        }
+
         private void fillTable() {
             module.table.clear();
             for (int i = 0; i < module.tableEntries(); i++) {
                 module.table.add(NONE);
             }
             int next = 0;
-            for (int e = 0; e < module.elementPlace.size(); e++) {
+            for (int e = 0; e < module.elementPlace.size; e++) {
                 for (int i = 0; i < module.elementSize.get(e); i++) {
                     module.table.set(module.elementPlace.get(e) + i, module.elementFunction.get(next));
                     next++;
@@ -4524,7 +4539,7 @@ public final class Wasmhall {
                     break;
                 case OP_BR_IF:
                     take(1);
-                    height += lookAtBranch(at, with);
+                    takeAndPut(0, lookAtBranch(at, with));
                     break;
                 case OP_RETURN:
                     take(module.typeOfFunction(function) & 1);
@@ -4535,7 +4550,7 @@ public final class Wasmhall {
                     lookAtCall(module.typeOfFunction(with));
                     break;
                 case OP_CALL_INDIRECT:
-                    needs(module.tableSize != NONE && with >= 0 && with < module.types.size());
+                    needs(module.tableSize != NONE && with >= 0 && with < module.types.size);
                     take(1);
                     lookAtCall(module.types.get(with));
                     break;
@@ -4650,7 +4665,7 @@ public final class Wasmhall {
                 return length - 1;
             }
             int end = module.aim.get(start + blockBegin[block]);
-            return codeAt(end) == OP_ELSE ? module.aim.get(start + end) : end;
+            return module.op.get(start + end) == OP_ELSE ? module.aim.get(start + end) : end;
         }
     }
 
@@ -4677,7 +4692,7 @@ public final class Wasmhall {
         private int given;
         private int freed;
 
-        void begin(int atLeast, int atMost) {
+        void prepare(int atLeast, int atMost) {
             Arrays.fill(memory, (byte) 0);
             pages = atLeast;
             pagesAtMost = atMost;
@@ -4767,7 +4782,7 @@ public final class Wasmhall {
                 return true;
             }
             boolean isGood = lessen(word);
-            for (int i = 0; isGood && i < FAR && i < row.size(); i++) {
+            for (int i = 0; isGood && i < FAR && i < row.size; i++) {
                 int cell = row.get(i);
                 int many = fields.get(cell >> 2);
                 for (int f = 0; isGood && f < many; f++) {
@@ -4867,7 +4882,7 @@ public final class Wasmhall {
 
         private int allHolders() {
             int sum = 0;
-            for (int i = 0; i < fields.size(); i++) {
+            for (int i = 0; i < fields.size; i++) {
                 if (fields.get(i) > 0) {
                     sum += wordAt(4 * i);
                 }
@@ -4881,17 +4896,17 @@ public final class Wasmhall {
 
         /** Whether the cells in use are those that a word leads to, with just as many holders as there are. */
         boolean holdsJust(int word) {
-            references.zeros(fields.size());
+            references.zeros(fields.size);
             row.clear();
             boolean isGood = refer(word);
-            for (int i = 0; isGood && i < FAR && i < row.size(); i++) {
+            for (int i = 0; isGood && i < FAR && i < row.size; i++) {
                 int cell = row.get(i);
                 int many = fields.get(cell >> 2);
                 for (int f = 0; isGood && f < many; f++) {
                     isGood = refer(field(cell, f));
                 }
             }
-            for (int i = 0; isGood && i < fields.size(); i++) {
+            for (int i = 0; isGood && i < fields.size; i++) {
                 isGood = fields.get(i) <= 0 || references.get(i) > 0 && references.get(i) == wordAt(4 * i);
             }
             return isGood;
@@ -4966,7 +4981,7 @@ public final class Wasmhall {
         void start(Module whole, int which, int a, int b, int c) {
             module = whole;
             export = which;
-            host.begin(module.leastPages(), module.mostPages());
+            host.prepare(module.leastPages(), module.mostPages());
             words.clear();
             frames = 0;
             mostFrames = 0;
@@ -5041,7 +5056,7 @@ public final class Wasmhall {
             for (int f = 0; f < frames; f++) {
                 locals += stack(f) - base(f);
             }
-            return words.size() - locals;
+            return words.size - locals;
         }
 
         int frameCount() {
@@ -5049,7 +5064,7 @@ public final class Wasmhall {
         }
 
         int newestStack() {
-            return frames == 0 ? 0 : words.size() - stack(frames - 1);
+            return frames == 0 ? 0 : words.size - stack(frames - 1);
         }
 
         int stackWord(int depth) {
@@ -5091,14 +5106,14 @@ public final class Wasmhall {
             if (frames < 0 || frames >= MOST_FRAMES) {
                 return;
             }
-            int base = words.size() - module.parametersOf(function);
+            int base = words.size - module.parametersOf(function);
             for (int i = 0; i < module.locals.get(own); i++) {
                 words.add(0);
             }
             frameFunction[frames] = function;
             frameAt[frames] = 0;
             frameBase[frames] = base;
-            frameStack[frames] = words.size();
+            frameStack[frames] = words.size;
             frames++;
             mostFrames = Math.max(mostFrames, frames);
         }
@@ -5138,7 +5153,7 @@ public final class Wasmhall {
             boolean isCall = code == OP_CALL || code == OP_CALL_INDIRECT;
             if (isCall) {
                 goTo(at + 1);
-                trap = code == OP_CALL ? invoke(with, 0) : invokeEntry(with);
+                trap = code == OP_CALL ? invoke(with, 0) : invoke(entry(with), 1);
             } else if (code >= OP_EQZ) {
                 trap = actNumbers(code);
             } else {
@@ -5334,17 +5349,18 @@ public final class Wasmhall {
 
         // Calls.
 
-        private int invokeEntry(int type) {
+        /** The function that the topmost word stands for in the table, if it is of a type; otherwise NONE. */
+        private int entry(int type) {
             int entry = words.top(0);
-            int called = entry >= 0 && entry < module.table.size() ? module.table.get(entry) : NONE;
-            if (called == NONE || module.typeOfFunction(called) != module.types.get(type)) {
-                return TRAP_TABLE;
-            }
-            return invoke(called, 1);
+            int called = entry >= 0 && entry < module.table.size ? module.table.get(entry) : NONE;
+            return called != NONE && module.typeOfFunction(called) == module.types.get(type) ? called : NONE;
         }
 
         /** Calls a function; so many words above its parameters are taken away first, if there is no trap. */
         private int invoke(int called, int above) {
+            if (called == NONE) {
+                return TRAP_TABLE;
+            }
             int asked = module.hostOf(called);
             if (asked != NONE) {
                 return invokeHost(asked, above);
@@ -5352,7 +5368,7 @@ public final class Wasmhall {
             if (frames >= MOST_FRAMES) {
                 return TRAP_DEEP;
             }
-            words.cut(words.size() - above);
+            words.cut(words.size - above);
             enter(called);
             return 0;
         }
@@ -5386,7 +5402,7 @@ public final class Wasmhall {
             if (isClaim && given == 0) {
                 return TRAP_MEMORY;
             }
-            words.cut(words.size() - above - (Module.hostType(asked) >> 1));
+            words.cut(words.size - above - (Module.hostType(asked) >> 1));
             if (asked != HOST_DROP) {
                 words.add(given);
             }
