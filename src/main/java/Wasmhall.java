@@ -3540,14 +3540,14 @@ public final class Wasmhall {
         }
 
         private void putRoom(int hidden, int itsWrapper, int many, int values) {
-            putConst(2 + values);
-            call(HOST_ROOM);
+            put(OP_CONST, 2 + values);
+            put(OP_CALL, HOST_ROOM);
             put(OP_SET, hidden);
             put(OP_GET, hidden);
-            putConst(2 * itsWrapper + 1);
+            put(OP_CONST, 2 * itsWrapper + 1);
             put(OP_STORE, 8);
             put(OP_GET, hidden);
-            putConst(2 * (many - values) + 1);
+            put(OP_CONST, 2 * (many - values) + 1);
             put(OP_STORE, 12);
         }
 
@@ -5153,7 +5153,11 @@ public final class Wasmhall {
             boolean isCall = code == OP_CALL || code == OP_CALL_INDIRECT;
             if (isCall) {
                 goTo(at + 1);
-                trap = code == OP_CALL ? invoke(with, 0) : invoke(entry(with), 1);
+                int called = code == OP_CALL ? with : entry(with);
+                int above = code == OP_CALL ? 0 : 1;
+                int asked = module.hostOf(called);
+                trap = called == NONE ? TRAP_TABLE : asked == NONE ? invoke(called, above)
+                        : invokeHost(asked, above);
             } else if (code >= OP_EQZ) {
                 trap = actNumbers(code);
             } else {
@@ -5356,15 +5360,8 @@ public final class Wasmhall {
             return called != NONE && module.typeOfFunction(called) == module.types.get(type) ? called : NONE;
         }
 
-        /** Calls a function; so many words above its parameters are taken away first, if there is no trap. */
+        /** Calls an own function; words above its parameters are taken away first, if there is no trap. */
         private int invoke(int called, int above) {
-            if (called == NONE) {
-                return TRAP_TABLE;
-            }
-            int asked = module.hostOf(called);
-            if (asked != NONE) {
-                return invokeHost(asked, above);
-            }
             if (frames >= MOST_FRAMES) {
                 return TRAP_DEEP;
             }
