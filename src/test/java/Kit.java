@@ -108,4 +108,35 @@ final class Kit {
         }
         return text.toString();
     }
+
+    private static final String[] NAMES = {"unreachable", "nop", "block", "loop", "if", "else", "end", "br", "br_if",
+        "return", "call", "call_indirect", "drop", "select", "get", "set", "tee", "load", "store", "size", "grow",
+        "const", "eqz", "eq", "ne", "lt_s", "lt_u", "gt_s", "le_s", "ge_s", "add", "sub", "mul", "div_s", "rem_s",
+        "and", "or", "xor", "shl", "shr_s", "shr_u"};
+    private static final int[] CODES = {0, 1, 2, 3, 4, 5, 11, 12, 13, 15, 16, 17, 26, 27, 32, 33, 34, 40, 54, 63, 64,
+        65, 69, 70, 71, 72, 73, 74, 76, 78, 106, 107, 108, 109, 111, 113, 114, 115, 116, 117, 118};
+
+    static int codeOf(String name) {
+        for (int i = 0; i < NAMES.length; i++) {
+            if (NAMES[i].equals(name)) {
+                return CODES[i];
+            }
+        }
+        throw new IllegalArgumentException(name);
+    }
+
+    /** Instructions in words ("get 0, call 1, end"), in the form of code(). An if is one with a value. */
+    static String asm(String words) {
+        StringBuilder text = new StringBuilder();
+        for (String one : words.split(",")) {
+            String[] parts = one.trim().split(" ");
+            text.append(text.length() == 0 ? "" : " ").append(codeOf(parts[0]));
+            if (parts[0].equals("if")) {
+                text.append(":127");
+            } else if (parts.length > 1) {
+                text.append(":").append(parts[1]);
+            }
+        }
+        return text.toString();
+    }
 }
