@@ -157,9 +157,9 @@ public final class Wasmhall {
     private int latestMost;
     private final Maker maker = new Maker();
     private final Checker checker = new Checker();
-    private final Module[] modules = new Module[MOST_MODULES];
+    private final WasmModule[] modules = new WasmModule[MOST_MODULES];
     private int moduleCount;
-    private final Module spareModule = new Module();
+    private final WasmModule spareModule = new WasmModule();
     private final Ints coded = new Ints(256);
     private final Coder coder = new Coder();
     /** A second one, so that questions leave the fault of the latest reading alone. */
@@ -349,7 +349,7 @@ public final class Wasmhall {
         Tree tree = programOf(program);
         needLevel(level);
         needModuleRoom();
-        Module module = freeModule();
+        WasmModule module = freeModule();
         maker.build(tree, level, module);
         checker.firstInvalid(module);
         moduleCount++;
@@ -369,20 +369,20 @@ public final class Wasmhall {
     }
 
     /** The one behind those there are; it is kept and used again when it has been dropped. */
-    private Module freeModule() {
+    private WasmModule freeModule() {
         if (moduleCount < 0 || moduleCount >= modules.length) {
             return spareModule;
         }
-        Module module = modules[moduleCount];
+        WasmModule module = modules[moduleCount];
         if (module == null) {
-            module = new Module();
+            module = new WasmModule();
             modules[moduleCount] = module;
         }
         return module;
     }
 
-    private Module moduleOf(int module) {
-        Module found = module >= 0 && module < moduleCount && module < modules.length ? modules[module] : null;
+    private WasmModule moduleOf(int module) {
+        WasmModule found = module >= 0 && module < moduleCount && module < modules.length ? modules[module] : null;
         if (found == null) {
             throw new IndexOutOfBoundsException("no such module");
         }
@@ -390,7 +390,7 @@ public final class Wasmhall {
     }
 
     public int moduleAt(int module, int what) throws IndexOutOfBoundsException, IllegalArgumentException {
-        Module found = moduleOf(module);
+        WasmModule found = moduleOf(module);
         if (what < 0 || what > 8) {
             throw new IllegalArgumentException("no such question");
         }
@@ -419,7 +419,7 @@ public final class Wasmhall {
 
     public int functionAt(int module, int function, int what)
             throws IndexOutOfBoundsException, IllegalArgumentException {
-        Module found = moduleOf(module);
+        WasmModule found = moduleOf(module);
         if (function < 0 || function >= found.importCount() + found.ownCount()) {
             throw new IndexOutOfBoundsException("no such function");
         }
@@ -441,7 +441,7 @@ public final class Wasmhall {
 
     public int opAt(int module, int function, int instruction, int what)
             throws IndexOutOfBoundsException, IllegalArgumentException {
-        Module found = moduleOf(module);
+        WasmModule found = moduleOf(module);
         int own = function < 0 ? NONE : function - found.importCount();
         if (own < 0 || own >= found.ownCount() || instruction < 0 || instruction >= found.instructionsOf(own)) {
             throw new IndexOutOfBoundsException("no such instruction");
@@ -454,7 +454,7 @@ public final class Wasmhall {
     }
 
     public int countOf(int module, int code) throws IndexOutOfBoundsException, IllegalArgumentException {
-        Module found = moduleOf(module);
+        WasmModule found = moduleOf(module);
         if (code < 0 || code > 255) {
             throw new IllegalArgumentException("no byte");
         }
@@ -483,7 +483,7 @@ public final class Wasmhall {
     }
 
     public int write(int module) throws IndexOutOfBoundsException, IllegalStateException {
-        Module found = moduleOf(module);
+        WasmModule found = moduleOf(module);
         otherCoder.code(found);
         if (otherCoder.codedBytes().size > MOST_BYTES) {
             throw new IllegalStateException("too many bytes");
@@ -520,7 +520,7 @@ public final class Wasmhall {
 
     public int read() throws IllegalStateException {
         needModuleRoom();
-        Module module = freeModule();
+        WasmModule module = freeModule();
         coder.decode(coded, module);
         if (coder.faultKindFound() == 0) {
             coder.noteInvalid(checker.firstInvalid(module));
@@ -537,8 +537,8 @@ public final class Wasmhall {
     }
 
     public boolean same(int one, int other) throws IndexOutOfBoundsException {
-        Module first = moduleOf(one);
-        Module second = moduleOf(other);
+        WasmModule first = moduleOf(one);
+        WasmModule second = moduleOf(other);
         return first.isLike(second);
     }
 
@@ -553,7 +553,7 @@ public final class Wasmhall {
 
     public int begin(int module, int export, int a, int b, int c)
             throws IndexOutOfBoundsException, IllegalStateException, IllegalArgumentException {
-        Module found = moduleOf(module);
+        WasmModule found = moduleOf(module);
         if (export < 0 || export >= found.exportFunction.size) {
             throw new IndexOutOfBoundsException("no such export");
         }
@@ -704,7 +704,7 @@ public final class Wasmhall {
     public int errors() {
         int count = 0;
         for (int i = 0; i < moduleCount; i++) {
-            Module module = moduleOf(i);
+            WasmModule module = moduleOf(i);
             boolean stands = checker.firstInvalid(module) == NONE;
             otherCoder.code(module);
             otherCoder.decode(otherCoder.codedBytes(), spareModule);
@@ -740,7 +740,7 @@ public final class Wasmhall {
     }
 
     public float countedShare(int module) throws IndexOutOfBoundsException {
-        Module found = moduleOf(module);
+        WasmModule found = moduleOf(module);
         int all = found.op.size;
         if (all <= 0) {
             return 0.0f;
@@ -2682,7 +2682,7 @@ public final class Wasmhall {
     }
 
     /** A module: all that its bytes tell, and what the machine needs beside it. */
-    private static final class Module {
+    private static final class WasmModule {
         /** Of each type 2 for each parameter, and 1 for a value. */
         private final Ints types = new Ints(16);
         private final Ints importHost = new Ints(8);
@@ -2802,7 +2802,7 @@ public final class Wasmhall {
             return export >= 0 && export < exportName.length ? exportName[export] : 0;
         }
 
-        boolean isLike(Module other) {
+        boolean isLike(WasmModule other) {
             return types.isLike(other.types) && importHost.isLike(other.importHost)
                     && importType.isLike(other.importType) && functionType.isLike(other.functionType)
                     && starts.isLike(other.starts) && locals.isLike(other.locals)
@@ -2813,7 +2813,7 @@ public final class Wasmhall {
                     && argument.isLike(other.argument);
         }
 
-        private boolean hasLikeExports(Module other) {
+        private boolean hasLikeExports(WasmModule other) {
             boolean like = exportLength.isLike(other.exportLength) && exportFunction.isLike(other.exportFunction);
             for (int i = 0; like && i < exportLength.size; i++) {
                 like = nameOfExport(i) == other.nameOfExport(i);
@@ -2875,13 +2875,13 @@ public final class Wasmhall {
         private final Ints caught = new Ints(64);
         /** The tokens of the definitions' names and of the funs, in the order of their functions. */
         private final Ints owners = new Ints(64);
-        private Module module;
+        private WasmModule module;
         private int localCount;
         /** The definition whose last uses of itself go back to its loop; NONE without a loop. */
         private int looping;
         private int openIfs;
 
-        void build(Tree program, int level, Module into) {
+        void build(Tree program, int level, WasmModule into) {
             module = into;
             module.clear();
             tree.copyShape(program);
@@ -3097,10 +3097,10 @@ public final class Wasmhall {
             for (int k = 0; k <= most; k++) {
                 module.types.add(2 * k + 1);
             }
-            module.types.add(Module.hostType(HOST_DROP));
+            module.types.add(WasmModule.hostType(HOST_DROP));
             for (int h = 0; h < HOST_FUNCTIONS; h++) {
                 module.importHost.add(h);
-                module.importType.add(h == HOST_DROP ? most + 1 : Module.hostType(h) >> 1);
+                module.importType.add(h == HOST_DROP ? most + 1 : WasmModule.hostType(h) >> 1);
             }
             int firstWrapper = APPLY + 1 + owners.size;
             int wrappers = 0;
@@ -3691,7 +3691,7 @@ public final class Wasmhall {
         private final Ints part = new Ints(256);
         private final Ints body = new Ints(128);
         private Ints in = out;
-        private Module module;
+        private WasmModule module;
         private int at;
         private int faultKind;
         private int faultPlace = NONE;
@@ -3712,7 +3712,7 @@ public final class Wasmhall {
         // Writing.
 
         /** Writes a module into codedBytes(). */
-        void code(Module whole) {
+        void code(WasmModule whole) {
             module = whole;
             out.clear();
             for (int i = 0; i < HEAD.length; i++) {
@@ -3809,7 +3809,7 @@ public final class Wasmhall {
             for (int i = 0; i < module.importCount(); i++) {
                 part.add(1);
                 part.add('h');
-                String name = Module.hostName(module.importHost.get(i));
+                String name = WasmModule.hostName(module.importHost.get(i));
                 putNumber(part, name.length());
                 for (int k = 0; k < name.length(); k++) {
                     part.add(name.charAt(k));
@@ -3962,7 +3962,7 @@ public final class Wasmhall {
         // Reading.
 
         /** Reads bytes into a module, which is of use only if no fault is found, and its instructions are valid. */
-        void decode(Ints bytes, Module into) {
+        void decode(Ints bytes, WasmModule into) {
             in = bytes;
             module = into;
             module.clear();
@@ -4161,7 +4161,7 @@ public final class Wasmhall {
 
         private static int hostNamed(long name, int length) {
             for (int h = 0; h < HOST_FUNCTIONS; h++) {
-                String known = Module.hostName(h);
+                String known = WasmModule.hostName(h);
                 long signs = 0;
                 for (int i = 0; i < known.length(); i++) {
                     signs = signs << 8 | known.charAt(i);
@@ -4330,7 +4330,7 @@ public final class Wasmhall {
             for (int i = 0; i < module.importCount(); i++) {
                 int type = module.importType.get(i);
                 int host = module.importHost.get(i);
-                hold = hold && host != NONE && isType(type) && module.types.get(type) == Module.hostType(host);
+                hold = hold && host != NONE && isType(type) && module.types.get(type) == WasmModule.hostType(host);
             }
             return hold;
         }
@@ -4373,7 +4373,7 @@ public final class Wasmhall {
         private final int[] blockBegin = new int[MOST_DEPTH_OF_BLOCKS];
         private final boolean[] blockValued = new boolean[MOST_DEPTH_OF_BLOCKS];
         private final boolean[] blockDead = new boolean[MOST_DEPTH_OF_BLOCKS];
-        private Module module;
+        private WasmModule module;
         private int function;
         private int start;
         private int length;
@@ -4382,7 +4382,7 @@ public final class Wasmhall {
         private boolean isWrong;
 
         /** The place of the first instruction that is not valid, or NONE. Fills aims and table of the module. */
-        int firstInvalid(Module whole) {
+        int firstInvalid(WasmModule whole) {
             module = whole;
             module.aim.zeros(module.op.size);
             fillShapes();
@@ -4940,7 +4940,7 @@ public final class Wasmhall {
         private final int[] frameAt = new int[MOST_FRAMES];
         private final int[] frameBase = new int[MOST_FRAMES];
         private final int[] frameStack = new int[MOST_FRAMES];
-        private Module module;
+        private WasmModule module;
         private int export;
         private int frames;
         private int mostFrames;
@@ -4978,7 +4978,7 @@ public final class Wasmhall {
             return state == STATE_ENDED && madeOf() != null && !isGivenBack;
         }
 
-        void start(Module whole, int which, int a, int b, int c) {
+        void start(WasmModule whole, int which, int a, int b, int c) {
             module = whole;
             export = which;
             host.prepare(module.leastPages(), module.mostPages());
@@ -5399,7 +5399,7 @@ public final class Wasmhall {
             if (isClaim && given == 0) {
                 return TRAP_MEMORY;
             }
-            words.cut(words.size - above - (Module.hostType(asked) >> 1));
+            words.cut(words.size - above - (WasmModule.hostType(asked) >> 1));
             if (asked != HOST_DROP) {
                 words.add(given);
             }
