@@ -121,4 +121,38 @@ final class Bytes {
         }
         return join(of(0), word(place), of(11), row(row));
     }
+
+    /** One instruction in words: its name, and what stands with it ("const 5", "load 8", "if 127"). */
+    private static int[] instruction(String words) {
+        String[] parts = words.trim().split(" +");
+        int code = Kit.codeOf(parts[0]);
+        long with = parts.length > 1 ? Long.parseLong(parts[1]) : 0;
+        switch (parts[0]) {
+            case "block": case "loop": case "if":
+                return of(code, (int) with);
+            case "br": case "br_if": case "call": case "get": case "set": case "tee":
+                return join(of(code), n(with));
+            case "call_indirect":
+                return join(of(code), n(with), of(0));
+            case "load": case "store":
+                return join(of(code, 2), n(with));
+            case "size": case "grow":
+                return of(code, 0);
+            case "const":
+                return word((int) with);
+            default:
+                return of(code);
+        }
+    }
+
+    /** Instructions in words, with , between them. An @ is no part of them. */
+    static int[] asm(String words) {
+        Bytes bytes = new Bytes();
+        for (String one : words.replace("@", "").split(",")) {
+            if (!one.isBlank()) {
+                bytes.add(instruction(one));
+            }
+        }
+        return bytes.array();
+    }
 }

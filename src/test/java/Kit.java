@@ -39,6 +39,13 @@ final class Kit {
         }
     }
 
+    /** A call that must throw this and nothing else, and leave all of its hall as it was. */
+    void refused(Wasmhall hall, String what, Class<?> want, Runnable call) {
+        String before = Look.at(hall);
+        throwing(what, want, call);
+        due("all is as it was behind " + what, Look.at(hall), before);
+    }
+
     /** Ends the test: with exit code 1 if an answer was wrong. */
     void end() {
         System.out.println(asked + " answers, " + wrong + " of them wrong");
@@ -49,13 +56,18 @@ final class Kit {
 
     /** Puts a text behind the text of the hall. */
     static void put(Wasmhall hall, String text) {
-        for (int i = 0; i < text.length(); i += 8) {
-            long eight = 0;
-            for (int k = i; k < i + 8 && k < text.length(); k++) {
-                eight = eight << 8 | text.charAt(k);
-            }
-            hall.type(eight, 0, 0, 0);
+        for (int i = 0; i < text.length(); i += 32) {
+            hall.type(eight(text, i), eight(text, i + 8), eight(text, i + 16), eight(text, i + 24));
         }
+    }
+
+    /** The eight bytes of a text from a place on as a number; fewer at its end. */
+    static long eight(String text, int begin) {
+        long eight = 0;
+        for (int k = begin; k < begin + 8 && k < text.length(); k++) {
+            eight = eight << 8 | text.charAt(k);
+        }
+        return eight;
     }
 
     static int loaded(Wasmhall hall, String text) {
@@ -69,6 +81,36 @@ final class Kit {
             text.append((char) hall.output(i));
         }
         return text.toString();
+    }
+
+    static Wasmhall made(String text, int level) {
+        Wasmhall hall = new Wasmhall();
+        loaded(hall, text);
+        hall.make(0, level);
+        return hall;
+    }
+
+    /** A hall that has read these bytes as its module 0. */
+    static Wasmhall read(int... bytes) {
+        Wasmhall hall = new Wasmhall();
+        putBytes(hall, bytes);
+        hall.read();
+        return hall;
+    }
+
+    /**
+     * Holds the fault of a text against its kind and its place: that is where the @ stands, which is no part of the
+     * text. Without an @ no fault is due.
+     */
+    void fault(int kind, String marked) {
+        int place = marked.indexOf('@');
+        String text = place < 0 ? marked : marked.substring(0, place) + marked.substring(place + 1);
+        due("fault of " + text, fault(text), (place < 0 ? 0 : kind) + " " + place);
+    }
+
+    /** A text without a fault. */
+    void good(String text) {
+        fault(0, text);
     }
 
     /** Fault kind and place of a text, on a hall of its own. */
@@ -95,9 +137,15 @@ final class Kit {
         return text.toString();
     }
 
+    /** Puts bytes behind the BYTES, eight by eight. */
     static void putBytes(Wasmhall hall, int... bytes) {
-        for (int b : bytes) {
-            hall.bytes(b, 1);
+        for (int i = 0; i < bytes.length; i += 8) {
+            int many = Math.min(8, bytes.length - i);
+            long eight = 0;
+            for (int k = i; k < i + many; k++) {
+                eight = eight << 8 | bytes[k];
+            }
+            hall.bytes(eight, many);
         }
     }
 
