@@ -54,6 +54,7 @@ public final class BytesBoundsTest {
         faultOfTheLatest();
         eightModules();
         writtenAsItIs();
+        eachInstructionWritten();
         sameInAll();
         clearModules();
         KIT.end();
@@ -777,6 +778,22 @@ public final class BytesBoundsTest {
         both.write(0);
         KIT.due("table and memory", Kit.bytes(both), "0 97 115 109 1 0 0 0 1 1 0 2 1 0 3 1 0 4 4 1 112 0 0 5 4 1 1 0 0 7 1 0 9 1 0"
             + " 10 1 0");
+    }
+
+    /** Each instruction of the list is written by its byte and what stands with it. */
+    private static void eachInstructionWritten() {
+        int[] body = Bytes.asm("unreachable, nop, block 64, end, block 127, const 1, end, loop 64, end, loop 127, const 1, end,"
+            + "if 64, else, end, const 1, if 127, const 2, else, const 3, end, br 0, const 1, br_if 0, return, call 0,"
+            + "const 5, call_indirect 1, drop, select, get 0, set 0, tee 0, load 300, const 1, store 0, size, grow, const -300, eqz,"
+            + "eq, ne, lt_s, lt_u, gt_s, le_s, ge_s, add, sub, mul, div_s, rem_s, and, or, xor, shl, shr_s, shr_u, drop");
+        int[] all = Bytes.module(TYPES, DUP, ONE, Bytes.table(1), Bytes.memory(1, 1), Bytes.section(7, o(0)), Bytes.section(9, o(0)),
+            Bytes.section(10, Bytes.row(Bytes.code(1, body))));
+        Wasmhall hall = Kit.read(all);
+        KIT.due("its fault", hall.fault(true) + " " + hall.fault(false), "0 -1");
+        KIT.due("write(0)", hall.write(0), all.length);
+        KIT.due("as it was read", Kit.bytes(hall), text(all));
+        KIT.due("read() again", hall.read(), 1);
+        KIT.due("the same", hall.same(0, 1), true);
     }
 
     private static int[] module(int... n) {

@@ -249,6 +249,16 @@ public final class MachineBoundsTest {
         again.begin(0, 0, 0, 0, 0);
         KIT.due("pages", again.runAt(0, 4), 1);
         KIT.due("memoryAt(0, 8)", again.memoryAt(0, 8), 0);
+        // So it has its own frames and stacks, where a trap has left some.
+        Wasmhall left = run(SMALL, "const 5, const 6, const 1, if 64, call 5, drop, end, drop");
+        KIT.due("frames of the trap", left.runAt(0, 2), 80);
+        left.dropRun(0);
+        left.begin(0, 0, 0, 0, 0);
+        KIT.due("frames", left.runAt(0, 2) + " " + left.runAt(0, 8), "1 1");
+        KIT.due("words on stacks", left.runAt(0, 3), 0);
+        left.step(0, 2);
+        KIT.due("words on stacks behind two steps", left.runAt(0, 3), 2);
+        KIT.due("a local", left.localAt(0, 0, 1), 0);
     }
 
     /** Counts its parameter down, a frame each: 2 * n + 1, less by 2. */

@@ -395,6 +395,20 @@ public final class MakingBoundsTest {
         code("def f a b = let g = f a in 1;", 1, 6, "get 1, call 1, const 3, call 4, set 2, get 2, const 1, store 8, get 2,"
             + "const 3, store 12, get 2, get 0, store 16, get 2, call 1, const 3, end");
         KIT.fault(3, "def f a = @f a a;");
+        // Beside a loop: a use in the value of a use, of a cell, of a call, or in the first atom, is none in a last place.
+        String loop = "get 0, call 0, const 1, lt_s, const 1, shl, const 1, add, const 2, and, if, get 0, set 0, br 1, else, ";
+        code("def f n = if n < 0 then f n else (fun x -> x) (f n);", 1, 6, "loop 127, " + loop + "const 2, call 4, set 1, get 1,"
+            + "const 3, store 8, get 1, const 3, store 12, get 1, get 0, call 6, call 5, end, end, end");
+        code("def g a b = a; def f n = if n < 0 then f n else let h = g (f n) in 1;", 1, 7, "loop 127, " + loop + "const 3, call 4,"
+            + "set 1, get 1, const 1, store 8, get 1, const 3, store 12, get 1, get 0, call 7, store 16, get 1, call 1, const 3,"
+            + "end, end, end");
+        code("def g a = a; def f n = if n < 0 then f n else g (f n);", 1, 7, "loop 127, " + loop + "get 0, call 7, call 6, end, end,"
+            + "end");
+        code("def f n = if n < 0 then f n else (case f n of [] -> fun x -> [1] | h : t -> fun x -> t end) (f n);", 1, 6, "loop 127, "
+            + "get 0, call 0, const 1, lt_s, const 1, shl, const 1, add, const 2, and, if, get 0, set 0, br 1, else, get 0, call 0,"
+            + "call 6, tee 1, const 2, eq, if, const 2, call 4, set 2, get 2, const 3, store 8, get 2, const 3, store 12, get 2,"
+            + "else, get 1, load 12, call 0, set 3, get 1, call 1, const 3, call 4, set 4, get 4, const 5, store 8, get 4, const 3,"
+            + "store 12, get 4, get 3, store 16, get 4, end, get 0, call 6, call 5, end, end, end");
         // A use of another definition in a last place is a call.
         code("def g a = a; def f a = g a;", 1, 7, "get 0, call 6, end");
         code("def f a = f a;", 0, 6, "get 0, call 6, end");

@@ -65,7 +65,10 @@ public final class TypeBoundsTest {
         KIT.fault(3, "def f x y = [(x, y), @(y, [x])];");
         KIT.good("def f x y = [(x, y), (y, x)];");
         KIT.good("def f x = [x, x];");
-        KIT.good("def f x y = [(x, [y]), (y, [x])];");
+        // The same behind definitions with many types of their own.
+        KIT.fault(3, FIFTY + "def g x y = [[(x, [y])], [([y], x)]]; def f x y = [(x, y), @(y, [x])];");
+        KIT.fault(3, FIFTY + "def g x y z = [[[x], [[y]]], z]; def h x = [x]; def f x = [x, @[x]];");
+        KIT.good("def f x y = [(x, [y]), (x, [y]), (y, [x])];");
     }
 
     /** "The body is found, then made the same as r AT the body." */
