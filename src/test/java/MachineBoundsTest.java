@@ -288,6 +288,11 @@ public final class MachineBoundsTest {
         KIT.due("words on all stacks", more.runAt(0, 3), 1);
         KIT.due("the parameter of the first frame", more.localAt(0, 79, 0), 161);
         KIT.due("and of the newest one", more.localAt(0, 0, 0), 3);
+        for (int frame = 0; frame < 80; frame++) {
+            int which = frame;
+            KIT.due("the parameter of frame " + frame, more.localAt(0, frame, 0), 3 + 2 * frame);
+            KIT.throwing("a second local of frame " + frame, NoSuchElementException.class, () -> more.localAt(0, which, 1));
+        }
     }
 
     private static void eightyFramesByTable() {
@@ -431,6 +436,7 @@ public final class MachineBoundsTest {
         KIT.due("BROKEN at the end", hall.runAt(0, 0), 7);
         KIT.due("the entry stays on the stack", hall.stackAt(0, 0), 0);
         KIT.due("and the word", hall.stackAt(0, 1), 16);
+        KIT.due("and nothing else", hall.runAt(0, 3), 2);
         KIT.due("one cell is left", hall.runAt(0, 5), 1);
         KIT.due("two were given", hall.runAt(0, 7), 2);
     }

@@ -6,6 +6,7 @@ public final class MakingBoundsTest {
         wordsOfValues();
         greatestNumberOfParameters();
         noWrappers();
+        namesOfExports();
         orderOfFunctions();
         orderOfCaughtNames();
         caughtNamesByTheirNumbersThere();
@@ -40,6 +41,9 @@ public final class MakingBoundsTest {
     private static void code(String text, int level, int function, String due) {
         Wasmhall hall = Kit.made(text, level);
         KIT.due("function " + function + " of level " + level + " of " + text, Kit.code(hall, 0, function), Kit.asm(due));
+        hall.write(0);
+        KIT.due("the module of level " + level + " of " + text + " is valid", hall.read(), 1);
+        KIT.due("and the same when it is read", hall.same(0, 1), true);
     }
 
     private static void both(String text, int function, String due) {
@@ -94,6 +98,30 @@ public final class MakingBoundsTest {
         Wasmhall empty = Kit.made("", 1);
         KIT.due("an empty program has APPLY alone", empty.moduleAt(0, 2), 1);
         KIT.due("no exports", empty.moduleAt(0, 4), 0);
+    }
+
+    /** "an export for each definition: a made module's exports stand in the order of the definitions" */
+    private static void namesOfExports() {
+        String[] names = {"a", "z", "zzzzzz", "a0", "z9", "a01289", "b0", "aj", "yz9zy0", "abcdef", "z99999", "f1f2f3"};
+        StringBuilder text = new StringBuilder();
+        StringBuilder due = new StringBuilder(" 12");
+        for (int i = 0; i < names.length; i++) {
+            text.append("def ").append(names[i]).append(" = ").append(i).append("; ");
+            due.append(' ').append(names[i].length());
+            for (char sign : names[i].toCharArray()) {
+                due.append(' ').append((int) sign);
+            }
+            due.append(" 0 ").append(6 + i);
+        }
+        Wasmhall hall = Kit.made(text.toString(), 0);
+        hall.write(0);
+        KIT.due("the names of exports", Kit.bytes(hall).contains(due + " 9 6 1 0 65 0 11 0 10 "), true);
+        for (int i = 0; i < names.length; i++) {
+            hall.begin(0, i, 0, 0, 0);
+            hall.step(0, 2);
+            KIT.due("export " + i, hall.word(0), 2 * i + 1);
+            hall.dropRun(0);
+        }
     }
 
     /** "definition by definition, its function, and the functions of the funs in it, by the places of their tokens" */
@@ -409,6 +437,10 @@ public final class MakingBoundsTest {
             + "call 6, tee 1, const 2, eq, if, const 2, call 4, set 2, get 2, const 3, store 8, get 2, const 3, store 12, get 2,"
             + "else, get 1, load 12, call 0, set 3, get 1, call 1, const 3, call 4, set 4, get 4, const 5, store 8, get 4, const 3,"
             + "store 12, get 4, get 3, store 16, get 4, end, get 0, call 6, call 5, end, end, end");
+        Wasmhall first = Kit.made("def f n = if n < 0 then f n else let k = (case [] of [] -> f n | h : t -> h end) 5 in"
+            + " fun x -> x + k;", 1);
+        KIT.due("br of a use in a first atom", first.countOf(0, 12), 1);
+        KIT.due("calls of it", Kit.code(first, 0, 6).contains("32:0 16:6"), true);
         // A use of another definition in a last place is a call.
         code("def g a = a; def f a = g a;", 1, 7, "get 0, call 6, end");
         code("def f a = f a;", 0, 6, "get 0, call 6, end");

@@ -192,6 +192,7 @@ public final class TextBoundsTest {
         // Six signs tell two names apart to the last one, digits from letters, too.
         KIT.good("def f abcdef abcdeg abcde0 abcde = abcdeg;");
         KIT.fault(2, "def f a99999 z99999 = @a99998;");
+        KIT.good("def b0 = 1; def aj = 2; def a9 = 3; def b = 4; def aa = 5; def a = 6; def k = 7; def j = 8; def bz = 9; def c0 = 1;");
     }
 
     /** "rows of letters a to z and digits that begin with a letter" */
