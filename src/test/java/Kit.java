@@ -1,6 +1,14 @@
 /** What the tests share: a count of wrong answers, texts put into a hall, and outputs read from it. */
 final class Kit {
-    static final String NOTHING = "";
+    /** The pieces of promise 3. */
+    static final String[] PIECES = {"def len l = case l of [] -> 0 | h : t -> 1 + len t end;",
+        "def map f l = case l of [] -> [] | h : t -> f h : map f t end;",
+        "def sum l a = case l of [] -> a | h : t -> sum t (a + h) end;",
+        "def upto n = if n < 1 then [] else n : upto (n - 1);",
+        "def swap p = case p of (x, y) -> (y, x) end; def twice f x = f (f x);",
+        "def main n = sum (map (fun x -> x * x + n) (upto n)) 0;",
+        "def add a b = a + b; def adds = [add 1, add 2, fun x -> x];",
+        "def half n = let q = n / 2 in (q, n - 2 * q); def bad n = 10 / (n - n);"};
     private int wrong;
     private int asked;
 

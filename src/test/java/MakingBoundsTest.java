@@ -31,6 +31,7 @@ public final class MakingBoundsTest {
         loopsInIfs();
         levels();
         eightModules();
+        densestTexts();
         questionsOfModules();
         questionsOfFunctions();
         questionsOfInstructions();
@@ -486,6 +487,42 @@ public final class MakingBoundsTest {
         KIT.due("agree() needs no room", hall.agree(0, 0, 1, 0, 0, 0), 1);
         hall.clearModules();
         KIT.due("make() again", hall.make(0, 0), 0);
+    }
+
+    /** A text up to 800 bytes: its beginning, something again and again, its end. */
+    private static String filled(String begin, String again, String end) {
+        StringBuilder text = new StringBuilder(begin);
+        while (text.length() + again.length() + end.length() <= 800) {
+            text.append(again);
+        }
+        return text.append(end).toString();
+    }
+
+    /** What is made stays below the bounds of what is read, also of the texts that make the most of something. */
+    private static void densestTexts() {
+        largest(filled("def f x=x", "/x", ";"), 6, 3, 4347);
+        largest(filled("def f x=x;def g=[f", ",f", "];"), 7, 2, 391);
+        largest(filled("def f x=[fun a->1", ",fun a->1", "];"), 6, 2, 87);
+        String names = "";
+        String funs = "def f";
+        for (int i = 0; i < 44; i++) {
+            String name = (char) ('a' + i / 4) + "" + i % 4;
+            String ahead = i == 0 || i % 4 != 0 ? " " : i == 4 ? "=fun " : "->fun ";
+            funs += ahead + name;
+            names += (i > 0 ? "+" : "") + name;
+        }
+        largest(funs + "->" + names + ";", 16, 1, 44);
+    }
+
+    private static void largest(String text, int function, int what, int due) {
+        for (int level = 0; level < 2; level++) {
+            Wasmhall hall = Kit.made(text, level);
+            KIT.due("functionAt(0, " + function + ", " + what + ") of " + text, hall.functionAt(0, function, what), due);
+            hall.write(0);
+            KIT.due("read() of " + text, hall.read(), 1);
+            KIT.due("same() of " + text, hall.same(0, 1), true);
+            KIT.due("errors() of " + text, hall.errors(), 0);
+        }
     }
 
     /** "what: 0 its types ... 8 at most" */

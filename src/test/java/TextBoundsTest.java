@@ -121,24 +121,15 @@ public final class TextBoundsTest {
         KIT.due("both have no fault", hall.faultKind(), 0);
     }
 
-    private static final String[] PIECES = {"def len l = case l of [] -> 0 | h : t -> 1 + len t end;",
-        "def map f l = case l of [] -> [] | h : t -> f h : map f t end;",
-        "def sum l a = case l of [] -> a | h : t -> sum t (a + h) end;",
-        "def upto n = if n < 1 then [] else n : upto (n - 1);",
-        "def swap p = case p of (x, y) -> (y, x) end; def twice f x = f (f x);",
-        "def main n = sum (map (fun x -> x * x + n) (upto n)) 0;",
-        "def add a b = a + b; def adds = [add 1, add 2, fun x -> x];",
-        "def half n = let q = n / 2 in (q, n - 2 * q); def bad n = 10 / (n - n);"};
-
     /** "Puts one of these pieces behind the text": their places of faults and their modules are those of the same typed. */
     private static void piecesToTheLetter() {
         for (int which = 0; which < 8; which++) {
-            String ahead = which == 5 ? PIECES[1] + PIECES[2] + PIECES[3] : "";
+            String ahead = which == 5 ? Kit.PIECES[1] + Kit.PIECES[2] + Kit.PIECES[3] : "";
             Wasmhall hall = new Wasmhall();
             Kit.put(hall, ahead);
-            KIT.due("piece(" + which + ")", hall.piece(which), ahead.length() + PIECES[which].length());
+            KIT.due("piece(" + which + ")", hall.piece(which), ahead.length() + Kit.PIECES[which].length());
             hall.load();
-            Kit.loaded(hall, ahead + PIECES[which]);
+            Kit.loaded(hall, ahead + Kit.PIECES[which]);
             for (int level = 0; level < 2; level++) {
                 hall.make(0, level);
                 hall.make(1, level);
@@ -150,7 +141,7 @@ public final class TextBoundsTest {
                 Kit.put(hall, behind);
                 String got = hall.faultKind() + " " + hall.faultPlace();
                 hall.clearText();
-                KIT.due("the fault of piece(" + which + ") and " + behind, got, Kit.fault(PIECES[which] + behind));
+                KIT.due("the fault of piece(" + which + ") and " + behind, got, Kit.fault(Kit.PIECES[which] + behind));
             }
         }
     }
