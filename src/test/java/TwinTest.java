@@ -51,7 +51,7 @@ public final class TwinTest {
             }
         }
         // The twin calls itself without a bound of its own.
-        Thread thread = new Thread(null, () -> runAll(first, many), "twins", 1L << 29);
+        Thread thread = new Thread(null, () -> runAll(first, many), "twins", 1L << 26);
         thread.start();
         thread.join();
         KIT.end();
